@@ -149,10 +149,11 @@ public final class PromisesTest {
         c.due("5 refused, THE DAY stays", x.count(3), 1);
         c.due("5 refused, ACTS stay", x.count(9), 5);
         c.due("5 refused, what was kept stays", x.again(0), 1);
-        x.day();
+        c.due("5 refused, the barrel stays", x.house(1, 3), 2);
+        x.salt(0);
         x.wipe();
-        Checks.writeAll(x, "T91H437H001");
-        c.due("5 row anew", x.row(), 20);
+        Checks.writeAll(x, "T91H437H001H001");
+        c.due("5 row anew", x.row(), 30);
         c.due("5 THE DAY", x.count(3), 0);
         c.due("5 SALTED", x.count(7), 0);
         c.due("5 AWAY", x.count(8), 0);
@@ -162,13 +163,19 @@ public final class PromisesTest {
         c.due("5 HEATS", x.count(2), 0);
         c.due("5 what was kept is gone", x.again(0), STATE);
         c.due("5 PLACE", x.house(0, 4), 0);
-        c.due("5 no third house", x.house(2, 0), UNKNOWN);
-        c.due("5 barrels are empty", x.house(0, 3), 0);
+        c.due("5 no fourth house", x.house(3, 0), UNKNOWN);
+        c.due("5 barrels are empty", x.house(1, 3), 0);
         c.due("5 SEEN stays", x.count(10), 1);
         c.due("5 THE SEED stays", x.seed(0L), 77);
         x.wipe();
         Checks.writeAll(x, "T00");
         c.due("5 a row without parts", x.row(), 0);
+        c.due("5 no TROUGH for anyone", x.day(), 0);
+        x.wipe();
+        Checks.writeAll(x, "T71");
+        c.due("5 a ring without houses", x.row(), 0);
+        c.due("5 a day in it", x.day(), 0);
+        c.due("5 an order in it", x.order(true), 0);
     }
 
     private static void p06House() {
@@ -427,6 +434,9 @@ public final class PromisesTest {
         ThirstRow fall = Checks.rowOf("T90H100H200H300H400H500H600");
         c.due("15 the falling one, how much", fall.order(false), 0);
         c.due("15 the falling one", fall.order(true), 654321);
+        ThirstRow turned = Checks.rowOf("T90H300H400H200");
+        c.due("15 an order amid the others, how much", turned.order(false), 0);
+        c.due("15 an order amid the others", turned.order(true), 213);
         ThirstRow barrel = Checks.rowOf("T50H609H400");
         c.due("15 the barrel is empty, how much", barrel.order(false), 1);
         barrel.away(0);
@@ -723,6 +733,12 @@ public final class PromisesTest {
             c.due("27 weeks(" + m + ")", x.weeks(m), OUTSIDE);
         }
         c.due("27 refused, THE SEED stays", x.seed(3L), 3);
+        x.seed(seedFor(12));
+        c.due("27 the first day", x.weeks(1), 5);
+        x.day();
+        x.seed(seedFor(12));
+        c.due("27 from the day that is now", x.weeks(1), 6);
+        x.seed(3L);
         x.weeks(30);
         c.due("27 THE SEED after 30", x.seed(0L), seedAfter(3L, 30));
     }
