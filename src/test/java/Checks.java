@@ -2,12 +2,18 @@
 final class Checks {
     private int wrong = 0;
     private int made = 0;
+    private String sentence = "";
+
+    /** The words of the document that the checks behind this stand for. */
+    void sentence(String words) {
+        sentence = "'" + words + "': ";
+    }
 
     void due(String what, long got, long want) {
         made++;
         if (got != want) {
             wrong++;
-            System.out.println(what + " answered " + got + ", due is " + want);
+            System.out.println(sentence + what + " answered " + got + ", due is " + want);
         }
     }
 
@@ -15,7 +21,7 @@ final class Checks {
         made++;
         if (!isSo) {
             wrong++;
-            System.out.println(what + " is not so");
+            System.out.println(sentence + what + " is not so");
         }
     }
 
