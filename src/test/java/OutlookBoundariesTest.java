@@ -33,6 +33,7 @@ public final class OutlookBoundariesTest {
         judgePlace();
         judgeNumberOutside();
         judgeRowOutside();
+        judgeSixHouses();
         judgeWithoutHouses();
         c.end("OutlookBoundariesTest");
     }
@@ -374,6 +375,20 @@ public final class OutlookBoundariesTest {
             judged(n, Long.MAX_VALUE, OUTSIDE);
             judged(n, Long.MIN_VALUE, OUTSIDE);
             judged(n, 1L << 32, n < 4 ? OUTSIDE : 0);
+        }
+    }
+
+    private static void judgeSixHouses() {
+        c.sentence("JUDGED: n doings, told as three figures each");
+        ThirstRow x = Checks.rowOf("T90H900H900H900H900H900H000");
+        for (int house = 0; house <= 9; house++) {
+            int due = house <= 5 ? NONE : 0;
+            c.due("SALTED " + house, x.judge(1, 200 + house), due);
+            c.due("AWAY " + house, x.judge(1, 300 + house), due);
+            c.due("LACKS 0 " + house, x.judge(1, 400 + house), due);
+            c.due("LACKS 9 " + house, x.judge(1, 490 + house), due);
+            c.due("SWAPPED 0, " + house, x.judge(1, 100 + house), house == 0 ? 0 : due);
+            c.due("SWAPPED " + house + ", 5", x.judge(1, 105 + 10L * house), house == 5 ? 0 : due);
         }
     }
 

@@ -33,6 +33,7 @@ public final class RefusalsTest {
         textChangesNothingElse();
         seenChangesNothingElse();
         keptChangesNothingElse();
+        undoneAndGoneOnChangeNothingElse();
         constants();
         c.end("RefusalsTest");
     }
@@ -310,6 +311,33 @@ public final class RefusalsTest {
         }
         c.due("what was kept is not undone", x.again(0), 2);
         c.due("the other one is not undone", x.again(1), 1);
+    }
+
+    private static void undoneAndGoneOnChangeNothingElse() {
+        c.sentence("The last ACT is undone .. They are as they were kept");
+        ThirstRow x = Checks.rowOf(THREE);
+        x.keep(0);
+        x.day();
+        x.keep(1);
+        x.salt(0);
+        x.write('x');
+        x.see(0, 0, 4);
+        x.seed(5L);
+        c.due("undo", x.undo(), 1);
+        othersStay(x, "undone");
+        c.due("slot 1 stays", x.again(1), 1);
+        othersStay(x, "gone on");
+        c.due("slot 0 stays", x.again(0), 0);
+        c.due("slot 1 stays behind the other", x.again(1), 1);
+        c.due("HOUSES stay", x.count(1), 3);
+    }
+
+    private static void othersStay(ThirstRow x, String when) {
+        c.due(when + ", letters", x.count(0), THREE.length() + 1);
+        c.due(when + ", FAULT", x.fault(), THREE.length());
+        c.due(when + ", SEEN", x.count(10), 1);
+        c.due(when + ", WANTS", x.wants(0), 1 << 4);
+        c.due(when + ", THE SEED", x.seed(5L), 5);
     }
 
     private static void constants() {

@@ -25,6 +25,7 @@ public final class TextBoundariesTest {
         faultNone();
         atFirst();
         rowMadeAnew();
+        rowOfFewer();
         rowAnswers();
         rowRefused();
         rowEmptiesActsAndSlots();
@@ -258,6 +259,30 @@ public final class TextBoundariesTest {
         c.due("LACKED by all", x.count(6), 0);
         c.due("SALTED by bits", x.count(7), 0);
         c.due("AWAY by bits", x.count(8), 0);
+    }
+
+    private static void rowOfFewer() {
+        c.sentence("THE TEXT is THE ROW");
+        ThirstRow x = Checks.rowOf("T00H000H920H000H920H000H920D3");
+        x.count(5);
+        x.day();
+        x.order(false);
+        x.worst(false);
+        x.ahead(20, 0);
+        x.wipe();
+        Checks.writeAll(x, "T20H300");
+        x.row();
+        c.due("LACK today", x.count(5), 1);
+        c.due("a day", x.day(), 1);
+        c.due("LACKED", x.count(6), 1);
+        c.due("order(false)", x.order(false), 1);
+        c.due("order(true)", x.order(true), 1);
+        c.due("worst(false)", x.worst(false), 1);
+        c.due("ahead(20, 0)", x.ahead(20, 0), 20);
+        c.due("ahead(20, 1)", x.ahead(20, 1), 0);
+        c.due("share", x.share(0, true), 2);
+        c.due("guests", x.guests(4, 10, true), 0);
+        c.due("no second one", x.at(1), NONE);
     }
 
     private static void rowAnswers() {
@@ -566,6 +591,7 @@ public final class TextBoundariesTest {
         for (int house = 0; house < 6; house++) {
             c.due("salt(" + house + ")", x.salt(house), house + 4);
             c.due("salt(" + house + ") again", x.salt(house), STATE);
+            c.due("house(.., 6)", x.house(house, 6), 1);
             c.due("bits", x.count(7), (1 << house + 1) - 1);
             c.due("ACTS", x.count(9), house + 1);
         }
