@@ -824,6 +824,8 @@ public final class ThirstRow {
         private static final int SALTED = 2;
         private static final int AWAY = 3;
         private static final int LACKS = 4;
+        /** Six houses of twins, salted in the heat, want 144 together. */
+        private static final int MORE_THAN_ALL_LACK = 1000;
 
         private final Told trialTold;
         private final Standing trial;
@@ -851,7 +853,7 @@ public final class ThirstRow {
             trial.copyFrom(now);
             trial.standAsTold();
             look.hear(told, trial, 0);
-            bestLack = Integer.MAX_VALUE;
+            bestLack = MORE_THAN_ALL_LACK;
             bestOrder = 0;
             boolean more = true;
             // Orders come by rising figures, so of like ones the first stays.

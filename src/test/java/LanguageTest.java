@@ -23,6 +23,10 @@ public final class LanguageTest {
         "import", "package", "native", "volatile", "transient", "Exact", "System\\.(?!arraycopy)", "Thread", "Object",
         "equals", "hashCode", "toString", "protected"};
 
+    /** Of rule 4, what the class has a use for; a constant such as Integer.MAX_VALUE does not stand there. */
+    private static final java.util.Set<String> LIBRARY = java.util.Set.of("Math.max(", "Math.min(", "Math.abs(",
+        "Math.floorMod(", "Integer.bitCount(", "System.arraycopy(");
+
     private static final Checks c = new Checks();
 
     public static void main(String[] args) throws IOException {
@@ -110,11 +114,41 @@ public final class LanguageTest {
         c.holds("no lambda, no method reference", !code.contains("->") && !code.contains("::"));
         c.holds("no static block", !Pattern.compile("static\\s*\\{").matcher(code).find());
         c.holds("signs 1 to 127", source.chars().allMatch(ch -> ch > 0 && ch < 128));
+        library(code);
+        madeInConstructors(code);
+        lengthOfMethods(source.split("\n"));
+    }
+
+    private static void library(String code) {
+        Matcher m = Pattern.compile("\\b(Math|Integer|Long|System|Character|Boolean|Arrays|String|List)\\s*\\.\\s*\\w+\\s*\\(?")
+            .matcher(code);
+        while (m.find()) {
+            c.holds("of the library, as rule 4 has it: " + m.group(), LIBRARY.contains(m.group()));
+        }
+    }
+
+    /** Rule 12 by the shortest way, which README.md tells too: no call makes an object. */
+    private static void madeInConstructors(String code) {
+        String member = "";
+        for (String line : code.split("\n")) {
+            if (beginsMember(line)) {
+                member = line.strip();
+            }
+            if (Pattern.compile("\\bnew\\b|\\bclone\\b|\\bcopyOf").matcher(line).find()) {
+                c.holds("made in a constructor: " + line.strip(), member.matches("(public )?[A-Z]\\w*\\(.*"));
+            }
+        }
+    }
+
+    private static boolean beginsMember(String line) {
+        return line.matches("\\s+.*\\) \\{") && !line.matches("\\s+(if|for|while|switch|\\}).*");
+    }
+
+    private static void lengthOfMethods(String[] lines) {
         int longest = 0;
         int begun = 0;
-        String[] lines = source.split("\n");
         for (int i = 0; i < lines.length; i++) {
-            if (lines[i].matches("\\s+.*\\) \\{") && !lines[i].matches("\\s+(if|for|while|switch|\\}).*")) {
+            if (beginsMember(lines[i])) {
                 begun = i;
             }
             if (lines[i].matches("    (    )?\\}")) {
